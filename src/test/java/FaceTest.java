@@ -9,14 +9,34 @@ import java.util.TreeSet;
 
 /** The public face is the document's, no more and no less. */
 public final class FaceTest {
+    private static final String INDEX = " throws IndexOutOfBoundsException";
+    private static final String ARGUMENT = " throws IllegalArgumentException";
+    private static final String STATE = " throws IllegalStateException";
+
     private static final Set<String> FACE = new TreeSet<>(Arrays.asList(
             "NONE int", "new (int)",
-            "haul(int) int", "caught(int, int, int) boolean", "out(int, boolean) boolean", "arm(int) int",
-            "pair(int, int) int", "pairs() int", "difference(int, int) int", "kept(int) int", "sum(int) int",
-            "odds(int, int) long", "rank(int, int) int", "rankOdds(int, int) long",
-            "stopped(int, int, int) int", "crossing(int, int, int, int) long", "least(int, int, int, int) int",
-            "mean(int, int, int) long", "weight(int, int, int) long", "joined(int, int) long",
-            "reader(int, int, int) boolean", "unlike(int) int", "price(int, int) void", "lost() long"));
+            "haul(int) int" + INDEX + STATE,
+            "caught(int, int, int) boolean" + INDEX + ARGUMENT,
+            "out(int, boolean) boolean" + INDEX,
+            "arm(int) int" + INDEX,
+            "pair(int, int) int" + INDEX,
+            "pairs() int",
+            "difference(int, int) int" + INDEX,
+            "kept(int) int" + INDEX,
+            "sum(int) int" + INDEX,
+            "odds(int, int) long" + INDEX,
+            "rank(int, int) int" + INDEX,
+            "rankOdds(int, int) long" + INDEX,
+            "stopped(int, int, int) int" + INDEX + ARGUMENT,
+            "crossing(int, int, int, int) long" + INDEX + ARGUMENT,
+            "least(int, int, int, int) int" + ARGUMENT,
+            "mean(int, int, int) long" + INDEX,
+            "weight(int, int, int) long" + INDEX,
+            "joined(int, int) long" + INDEX,
+            "reader(int, int, int) boolean" + INDEX + ARGUMENT,
+            "unlike(int) int" + INDEX,
+            "price(int, int) void" + INDEX + ARGUMENT,
+            "lost() long"));
 
     public static void main(String[] args) {
         Checks checks = new Checks("FaceTest");
@@ -34,7 +54,7 @@ public final class FaceTest {
         }
         for (Method method : DeviceTrials.class.getDeclaredMethods()) {
             if (isSeen(method)) {
-                seen.add(method.getName() + types(method.getParameterTypes()) + " " + method.getReturnType());
+                seen.add(told(method));
                 publicNames.add(method.getName());
             }
         }
@@ -51,6 +71,15 @@ public final class FaceTest {
 
     private static boolean isSeen(Member member) {
         return !Modifier.isPrivate(member.getModifiers());
+    }
+
+    private static String told(Method method) {
+        StringBuilder told = new StringBuilder(method.getName());
+        told.append(types(method.getParameterTypes())).append(' ').append(method.getReturnType());
+        for (Class<?> thrown : method.getExceptionTypes()) {
+            told.append(" throws ").append(thrown.getSimpleName());
+        }
+        return told.toString();
     }
 
     private static String types(Class<?>[] types) {

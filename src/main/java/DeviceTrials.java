@@ -341,8 +341,11 @@ public final class DeviceTrials {
             return (state >>> DEVICE_BIT & 1) == 1;
         }
 
-        /** There is room: PAIRS is half of HAULS, and no haul is in two pairs. */
+        /** There is always room, as no haul is in two pairs; the index is looked at all the same. */
         private void addPair(int first, int second, int ship) {
+            if (pairCount >= PAIRS) {
+                return;
+            }
             boolean firstHasIt = hasDevice[first];
             deviceHaul[pairCount] = firstHasIt ? first : second;
             plainHaul[pairCount] = firstHasIt ? second : first;
@@ -546,7 +549,8 @@ public final class DeviceTrials {
 
         Walk() {
             ways = new long[2 * MOST_BOUND + 1];
-            top = 0;
+            // A place below the top is looked up, so there is one even before the first start.
+            top = 1;
             crossed = 0;
             all = 1;
         }

@@ -10,6 +10,7 @@ final class Checks {
     static final String STATE = "throws.IllegalStateException";
 
     private final String test;
+    private String sentence = "";
     private int made = 0;
     private int wrong = 0;
 
@@ -26,12 +27,17 @@ final class Checks {
         }
     }
 
+    /** The sentence of the document that the next checks look at. */
+    void of(String sentence) {
+        this.sentence = " [" + sentence + "]";
+    }
+
     void due(String what, Object want, Call call) {
         made++;
         String got = outcome(call);
         if (!got.equals(String.valueOf(want))) {
             wrong++;
-            System.out.println(test + ": " + what + " answered " + got + ", due is " + want);
+            System.out.println(test + sentence + ": " + what + " answered " + got + ", due is " + want);
         }
     }
 

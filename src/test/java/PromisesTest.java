@@ -1,13 +1,8 @@
 /** Each promise of the document with ordinary inputs, with the edges it names, and with wrong ones. */
-public final class PromisesTest {
-    private static final String INDEX = Checks.INDEX;
-    private static final String ARGUMENT = Checks.ARGUMENT;
-    private static final String STATE = Checks.STATE;
-    private static final int NONE = DeviceTrials.NONE;
-    private static final int[] FAR = {-1, Integer.MIN_VALUE, Integer.MAX_VALUE};
-
-    private final Checks checks = new Checks("PromisesTest");
-    private DeviceTrials t;
+public final class PromisesTest extends Bench {
+    private PromisesTest() {
+        super("PromisesTest");
+    }
 
     public static void main(String[] args) {
         PromisesTest test = new PromisesTest();
@@ -33,57 +28,6 @@ public final class PromisesTest {
         test.priceAndLost();
         test.mostOfAll();
         test.checks.end();
-    }
-
-    private void due(String what, Object want, Checks.Call call) {
-        checks.due(what, want, call);
-    }
-
-    private void dueFraction(String what, long above, long below, Checks.Call aboveCall, Checks.Call belowCall) {
-        due(what + " above", above, aboveCall);
-        due(what + " below", below, belowCall);
-    }
-
-    private void dueOdds(int kind, long above, long below) {
-        dueFraction("odds " + kind, above, below, () -> t.odds(kind, 0), () -> t.odds(kind, 1));
-    }
-
-    private void dueRankOdds(int kind, long above, long below) {
-        dueFraction("rankOdds " + kind, above, below, () -> t.rankOdds(kind, 0), () -> t.rankOdds(kind, 1));
-    }
-
-    private void dueMean(int ship, long above, long below) {
-        dueFraction("mean " + ship, above, below, () -> t.mean(ship, 0, 0), () -> t.mean(ship, 0, 1));
-    }
-
-    private void dueWeight(int ship, long above, long below) {
-        dueFraction("weight " + ship, above, below, () -> t.weight(ship, 0, 0), () -> t.weight(ship, 0, 1));
-    }
-
-    private void dueJoined(long above, long below) {
-        dueFraction("joined", above, below, () -> t.joined(0, 0), () -> t.joined(0, 1));
-    }
-
-    private void dueCrossing(int n, int upper, int lower, long above, long below) {
-        dueFraction("crossing " + n + " " + upper + " " + lower, above, below,
-                () -> t.crossing(n, upper, lower, 0), () -> t.crossing(n, upper, lower, 1));
-    }
-
-    /** A PAIR of a ship with counts of kind 0 for the haul with the DEVICE and for the PLAIN one. */
-    private void addPair(int ship, int device, int plain) {
-        int first = t.haul(ship);
-        int second = t.haul(ship);
-        boolean firstHasIt = t.arm(first) == 1;
-        t.caught(first, 0, firstHasIt ? device : plain);
-        t.caught(second, 0, firstHasIt ? plain : device);
-    }
-
-    /** PAIRS of ship 0 with these DIFFERENCES, all KEPT. */
-    private void withDifferences(int... differences) {
-        t = new DeviceTrials(7);
-        for (int d : differences) {
-            addPair(0, 1 + Math.max(d, 0), 1 + Math.max(-d, 0));
-        }
     }
 
     private void newObject() {
@@ -395,8 +339,8 @@ public final class PromisesTest {
     }
 
     private void crossingByAllWays() {
-        t = new DeviceTrials(1);
         for (int n = 0; n <= 12; n++) {
+            t = new DeviceTrials(1);
             for (int upper = 1; upper <= 5; upper++) {
                 for (int lower = 1; lower <= 5; lower++) {
                     long count = 0;
